@@ -10,7 +10,10 @@ public final class AccountsTest {
         answerShare();
         undo();
         undoOfEachChange();
+        undoOfForgetting();
+        undoOfRinging();
         codesAreNoChanges();
+        codesLeaveWhatCanBeUndone();
         save();
         restore();
         restoreKeepsWhatStays();
@@ -87,6 +90,10 @@ public final class AccountsTest {
         due.same("meanRust() without ropes", x.meanRust(), 0.0);
         x.rope(0);
         due.same("meanRust() without rust", x.meanRust(), 0.0);
+        Due.pullAndRing(x, 0, 0, 9);
+        due.same("meanRust() of one rope", x.meanRust(), 1.0);
+        x.end();
+        x.end();
         x.rope(1);
         x.rope(1);
         Due.pullAndRing(x, 0, 0, 9);
@@ -177,6 +184,46 @@ public final class AccountsTest {
         x.save();
         due.text("codes leave all as it is", picture(x), before);
         due.is("changes", x.account(12), left);
+    }
+
+    private static void undoOfForgetting() {
+        UnheardBells x = Due.bells(0, 1, 2);
+        for (int answer = 0; answer < 20; answer++) {
+            Due.pullAndRing(x, answer % 3, answer, 9);
+        }
+        String before = picture(x);
+        x.end();
+        Due.pullAndRing(x, 2, 1, 9);
+        Due.pullAndRing(x, 1, 3, 8);
+        due.is("the oldest are forgotten", x.answerOf(19, 1), 2);
+        for (int change = 0; change < 5; change++) {
+            x.undo();
+        }
+        due.text("what was forgotten is remembered again", picture(x), before);
+        due.is("the oldest", x.answerOf(19, 1), 0);
+    }
+
+    private static void undoOfRinging() {
+        UnheardBells x = Due.bells(0);
+        Due.pullAndRing(x, 0, 0, 9);
+        x.undo();
+        x.cancel(0);
+        due.refused(x, "ring when none was rung but one that was undone", x.ring(), 3, 0);
+    }
+
+    private static void codesLeaveWhatCanBeUndone() {
+        UnheardBells x = new UnheardBells();
+        for (int rope = 0; rope < 9; rope++) {
+            x.rope(rope % 4);
+        }
+        x.rope(4);
+        x.ring();
+        Due.runText(x, "r0;r0;c0");
+        for (int left = 7; left >= 0; left--) {
+            due.is("undo() after codes", x.undo(), left);
+            due.is("ropes", x.account(0), left + 1);
+        }
+        due.is("the first rope", x.ropeOf(0, 0), 0);
     }
 
     private static UnheardBells full() {

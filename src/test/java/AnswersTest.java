@@ -134,6 +134,10 @@ public final class AnswersTest {
         x.move(2, 0);
         numbersOfParish(x, 0, 2, 3, 2, 2, 1);
         numbersOfParish(x, 1, 1, 1, 1, 1, 2);
+        UnheardBells y = Due.bells(2);
+        ringAt(y, 0, 0);
+        ringAt(y, 23, 0);
+        due.is("the hours 0 and 23 count", y.parishOf(2, 3), 2);
     }
 
     private static void numbersOfParish(UnheardBells x, int parish, int... wants) {
@@ -145,6 +149,9 @@ public final class AnswersTest {
     private static void busiest() {
         UnheardBells x = Due.bells(0, 1, 2);
         due.is("busiest() without answers", x.busiest(), Due.NOTHING);
+        ringAt(x, 0, 0);
+        due.is("the hour 0", x.busiest(), 0);
+        x.end();
         ringAt(x, 4, 0);
         due.is("busiest()", x.busiest(), 4);
         ringAt(x, 5, 0);

@@ -86,6 +86,9 @@ public final class RopesTest {
         due.is("oil for just as much", x.oil(0, 7), 0);
         due.is("the rust then", x.ropeOf(0, 2), 0);
         due.is("the rust of the other", x.ropeOf(1, 2), 0);
+        x.undo();
+        x.undo();
+        due.is("oil(0, 9)", x.oil(0, 9), 0);
     }
 
     private static void ropeOf() {

@@ -59,6 +59,8 @@ public final class TextsTest {
         due.is("the day", x.account(3), 1);
         due.is("thirty orders", Due.runText(x, "e;e;e;e;e;e;e;e;e;e;e;e;e;e;e;e;e;e;e;e;e;e;e;e;e;e;e;e;e;e"), 30);
         due.is("the day", x.account(3), 31);
+        due.is("a late order", Due.runText(x, "e;e;e;e;e;e;e;e;e;e;e;e;e;e;e;e;e;e;e;e;e;e;e;e;e;e;e;e;r3"), 29);
+        due.is("its parish", x.ropeOf(1, 0), 3);
         due.is("no reason was kept", x.reason(false), Due.NOTHING);
     }
 
