@@ -159,6 +159,11 @@ public final class PullsTest {
         x.pull(2, 6, 9);
         due.is("an hour without answers", x.hour(), 0);
         due.is("its hour", x.account(2), 6);
+        for (int number = 0; number < 16; number++) {
+            x.pull(number % 3, 7, 1 + number % 9);
+        }
+        due.is("an hour of 16 pulls", x.hour(), 2);
+        due.is("none of them waits", x.account(1), 0);
     }
 
     private static void end() {
@@ -265,6 +270,11 @@ public final class PullsTest {
             y.pull(0, hour, 9);
         }
         bothForecasts(y, "up to the most rust", 9);
+        UnheardBells z = Due.bells(0, 1);
+        for (int number = 0; number < 16; number++) {
+            z.pull(number % 2, number, 9);
+        }
+        bothForecasts(z, "of 16 pulls", 16);
     }
 
     private static void bothForecasts(UnheardBells x, String when, int want) {

@@ -7,6 +7,7 @@ public final class TextsTest {
         runOrders();
         runTwoDigits();
         runFaults();
+        runReadsNothingOfEarlierTexts();
         runFails();
         runRanges();
         runAllOrNone();
@@ -143,6 +144,22 @@ public final class TextsTest {
         due.is("nothing was carried out", x.account(3) + x.account(4), 0);
         due.is("a fault is no change", x.account(12), 1);
         due.is("a fault keeps no reason", x.reason(false), Due.NOTHING);
+    }
+
+    private static void runReadsNothingOfEarlierTexts() {
+        UnheardBells x = Due.bells(0);
+        due.is("a whole order", Due.runText(x, "p0@5*1"), 1);
+        due.is("less of it", Due.runText(x, "p0@5*"), -2005);
+        x = new UnheardBells();
+        due.is("two ropes", Due.runText(x, "r0;r0"), 2);
+        due.is("a rope of two digits", Due.runText(x, "s01-"), 1);
+        x.pull(0, 5, 5);
+        due.refused(x, "a rope that does not wait", Due.runText(x, "c01"), 7, 0);
+        due.is("a rope of one digit, where a second one stood", Due.runText(x, "c0"), 1);
+        due.is("two orders", Due.runText(x, "e;e"), 2);
+        due.is("one of them", Due.runText(x, "e;"), -2002);
+        due.is("an hour of two digits", Due.runText(x, "p0@19"), -2005);
+        due.is("an hour of one digit", Due.runText(x, "p0@1"), -2004);
     }
 
     private static void runFails() {
