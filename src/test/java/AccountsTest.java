@@ -151,13 +151,16 @@ public final class AccountsTest {
 
     private static void undoOfEachChange() {
         for (int change = 0; change < 10; change++) {
+            int its = change;
             UnheardBells x = full();
-            String before = picture(x);
-            int left = x.account(12);
-            due.that("change " + change + " is successful", make(x, change) >= 0);
-            due.that("change " + change + " changes", !picture(x).equals(before));
-            due.is("undo of change " + change, x.undo(), Math.min(left, 7));
-            due.text("all is as before change " + change, picture(x), before);
+            due.that("the change " + change + " is successful", make(x, change) >= 0);
+            due.is("undo of change " + change, x.undo(), 7);
+            due.picture("all before change " + change, Picture.ofState(() -> {
+                UnheardBells y = full();
+                make(y, its);
+                y.undo();
+                return y;
+            }), Picture.ofState(AccountsTest::full));
         }
         UnheardBells y = Due.bells(1);
         due.is("an end without effect but the day", y.end(), 0);
@@ -165,9 +168,17 @@ public final class AccountsTest {
     }
 
     private static void codesAreNoChanges() {
+        due.picture("all after codes", Picture.ofState(() -> {
+            UnheardBells x = full();
+            answerCodes(x);
+            return x;
+        }), Picture.ofState(AccountsTest::full));
         UnheardBells x = full();
-        String before = picture(x);
-        int left = x.account(12);
+        answerCodes(x);
+        due.is("changes", x.account(12), 8);
+    }
+
+    private static void answerCodes(UnheardBells x) {
         x.rope(4);
         x.move(0, 0);
         x.move(0, 9);
@@ -182,25 +193,35 @@ public final class AccountsTest {
         x.forecast();
         x.tell(0);
         x.save();
-        due.text("codes leave all as it is", picture(x), before);
-        due.is("changes", x.account(12), left);
     }
 
     private static void undoOfForgetting() {
+        UnheardBells x = forgetful();
+        due.is("the oldest are forgotten", x.answerOf(19, 1), 2);
+        due.picture("what was forgotten is remembered again", Picture.ofState(() -> {
+            UnheardBells y = forgetful();
+            for (int change = 0; change < 5; change++) {
+                y.undo();
+            }
+            return y;
+        }), Picture.ofState(AccountsTest::remembering));
+        due.is("the oldest", remembering().answerOf(19, 1), 0);
+    }
+
+    private static UnheardBells remembering() {
         UnheardBells x = Due.bells(0, 1, 2);
         for (int answer = 0; answer < 20; answer++) {
             Due.pullAndRing(x, answer % 3, answer, 9);
         }
-        String before = picture(x);
+        return x;
+    }
+
+    private static UnheardBells forgetful() {
+        UnheardBells x = remembering();
         x.end();
         Due.pullAndRing(x, 2, 1, 9);
         Due.pullAndRing(x, 1, 3, 8);
-        due.is("the oldest are forgotten", x.answerOf(19, 1), 2);
-        for (int change = 0; change < 5; change++) {
-            x.undo();
-        }
-        due.text("what was forgotten is remembered again", picture(x), before);
-        due.is("the oldest", x.answerOf(19, 1), 0);
+        return x;
     }
 
     private static void undoOfRinging() {
@@ -264,33 +285,6 @@ public final class AccountsTest {
         }
     }
 
-    /** All that the calls tell of what changes can change. */
-    private static String picture(UnheardBells x) {
-        StringBuilder all = new StringBuilder();
-        for (int what = 0; what <= 10; what++) {
-            all.append(x.account(what)).append(' ');
-        }
-        for (int rope = 0; rope < 12; rope++) {
-            for (int what = 0; what <= 6; what++) {
-                all.append(x.ropeOf(rope, what)).append(' ');
-            }
-        }
-        for (int place = 0; place < 16; place++) {
-            for (int what = 0; what <= 2; what++) {
-                all.append(x.waiting(place, what)).append(' ');
-            }
-        }
-        for (int place = 0; place < 20; place++) {
-            for (int what = 0; what <= 3; what++) {
-                all.append(x.answerOf(place, what)).append(' ');
-            }
-        }
-        for (int hour = 0; hour < 24; hour++) {
-            all.append(x.answered(hour)).append(' ').append(x.guess(hour)).append(' ');
-        }
-        return all.toString();
-    }
-
     private static void save() {
         UnheardBells x = new UnheardBells();
         due.is("restore() without a snapshot", x.restore(), Due.NOTHING);
@@ -302,15 +296,15 @@ public final class AccountsTest {
         x.rope(2);
         due.is("restore()", x.restore(), 2);
         due.is("ropes", x.account(0), 2);
-        UnheardBells y = full();
-        String before = picture(y);
-        due.is("save()", y.save(), 3);
-        for (int change = 0; change < 10; change++) {
-            make(y, change);
-        }
-        due.that("much is changed", !picture(y).equals(before));
-        due.is("restore()", y.restore(), 3);
-        due.text("all is as it was saved", picture(y), before);
+        due.picture("all that was saved", Picture.ofState(() -> {
+            UnheardBells y = full();
+            due.is("save()", y.save(), 3);
+            for (int change = 0; change < 10; change++) {
+                make(y, change);
+            }
+            due.is("restore()", y.restore(), 3);
+            return y;
+        }), Picture.ofState(AccountsTest::full));
     }
 
     private static void restore() {

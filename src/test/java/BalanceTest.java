@@ -49,10 +49,14 @@ public final class BalanceTest {
     }
 
     private static void guessesThatDiffer() throws ReflectiveOperationException {
-        UnheardBells x = bells();
-        ropes(x, "parish")[0] = 7;
-        due.that("the guesses differ", x.guess(0) != x.guessAgain(0));
-        due.is("isBalanced() when the guesses differ", x.isBalanced(), 0);
+        for (int hour = 0; hour < 24; hour++) {
+            UnheardBells x = Due.bells(0, 1);
+            Due.pullAndRing(x, 0, hour, 9);
+            due.is("isBalanced() with an answer in the hour " + hour, x.isBalanced(), 1);
+            ropes(x, "parish")[0] = 7;
+            due.that("the guesses differ", x.guess(hour) != x.guessAgain(hour));
+            due.is("isBalanced() when the guesses of the hour " + hour + " differ", x.isBalanced(), 0);
+        }
     }
 
     private static int[] ropes(UnheardBells x, String row) throws ReflectiveOperationException {

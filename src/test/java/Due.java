@@ -1,3 +1,5 @@
+import java.util.Arrays;
+
 /** Holds answers against those that are due, and ends a test with exit code 1 if one is not. */
 final class Due {
     static final int NONE = -1011;
@@ -26,6 +28,15 @@ final class Due {
         hold(got.equals(want), call + " answered \"" + got + "\", due is \"" + want + "\"");
     }
 
+    /** Two pictures have the same lines; tells the first one that differs. */
+    void picture(String when, String got, String want) {
+        String[] gotLines = got.split("\n");
+        String[] wantLines = want.split("\n");
+        int line = Arrays.mismatch(gotLines, wantLines);
+        boolean isIn = line >= 0 && line < Math.min(gotLines.length, wantLines.length);
+        hold(line < 0, when + (isIn ? " has " + gotLines[line] + ", due is " + wantLines[line] : " has more or less"));
+    }
+
     void that(String what, boolean isSo) {
         hold(isSo, what + " is not so");
     }
@@ -47,6 +58,10 @@ final class Due {
 
     boolean isAllRight() {
         return wrong == 0;
+    }
+
+    int held() {
+        return held;
     }
 
     void end() {

@@ -9,6 +9,8 @@ public final class RandomRunsTest {
     private static final Due due = new Due("RandomRunsTest");
     private static final int RUNS = 600;
     private static final int CALLS = 512;
+    // A last text of some 60 characters, and all that is looked at behind it.
+    private static final int LATER_CALLS = 130;
     private static final int[] STRANGE = {Integer.MIN_VALUE, Integer.MAX_VALUE, -1, 12, 24, 1 << 16, -1000};
     private static final String KINDS = "rvspppppcnnnhhoe";
     private static final String SIGNS = "rvspcnhoe0123456789;:@*+-x ";
@@ -43,13 +45,14 @@ public final class RandomRunsTest {
 
     private void play(int run) {
         int done = 0;
-        while (done < CALLS - 70) {
+        while (done < CALLS - LATER_CALLS) {
             int before = calls.size();
             step();
             done += calls.size() - before;
         }
         hold("isBalanced()", x.isBalanced(), 1);
         lookAtAll();
+        due.that("an object is used for " + CALLS + " calls at most", calls.size() <= CALLS);
         if (!due.isAllRight()) {
             System.out.println("run " + run + ": " + calls);
         }
