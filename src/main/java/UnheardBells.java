@@ -22,7 +22,7 @@ public final class UnheardBells {
     private static final int MOST_STRENGTH = 9;
     private static final int MOST_OIL = 9;
 
-    // A day of 24 hours takes 119 characters, a rope with 16 pulls 94.
+    // A day of 24 hours takes 109 characters, a rope with 16 pulls 94.
     private static final int LINE_ROOM = 128;
 
     // One row more than changes, so that the state before a change that fails is kept beside them.
@@ -1070,6 +1070,7 @@ public final class UnheardBells {
         private int free;
         private final Tower[] rows = new Tower[HISTORY_ROWS];
 
+        /** floorMod answers an index of the rows, whatever the place is. */
         private Tower rowAt(int place) {
             int index = Math.floorMod(place, HISTORY_ROWS);
             if (rows[index] == null) {
